@@ -27,6 +27,7 @@ public final class PromiseTest {
         unknown();
         write();
         writeLengths();
+        writeMost();
         object();
         objectKinds();
         objectRoom();
@@ -251,6 +252,26 @@ public final class PromiseTest {
             Check.yes("set", x.set(1, 0, page));
             Check.same("page written", Check.written(x), "design 3\n.sheet " + page + " \"\"\n..wire 105 0 0 0\n");
         }
+    }
+
+    /** As much as 200 objects can come to: deep ones, and texts that are all escapes. */
+    private static void writeMost() {
+        SchematicText x = new SchematicText(0);
+        StringBuilder due = new StringBuilder("(design 3");
+        x.object(NONE, 0);
+        for (int k = 1; k < 100; k++) {
+            x.object(k - 1, 1);
+            due.append("\n").append(" ".repeat(k)).append("(sheet 0 \"\"");
+        }
+        String full = " \"" + "\\\\".repeat(40) + "\"";
+        for (int k = 100; k < 200; k++) {
+            x.object(99, 8);
+            for (int i = 0; i < 10; i++) {
+                Check.yes("eight escapes", x.set(k, -1 - i % 2, 0x5C5C5C5C5C5C5C5CL));
+            }
+            due.append("\n").append(" ".repeat(100)).append("(field").append(full).append(full).append(")");
+        }
+        Check.same("the longest page", Check.written(x), due.append(")".repeat(100)).append("\n").toString());
     }
 
     private static void object() {
