@@ -303,6 +303,7 @@ public final class PromiseTest {
             Check.noObject("parent " + parent, () -> x.object(parent, 1));
         }
         SchematicText read = Check.holding(1, "design 2\n.sheet 1 \"\"\n..odd\n...\n.wild\n", 4);
+        Check.same("written before", Check.written(read), "design 3\n.sheet 1 \"\"\n..odd\n...\n.wild\n");
         Check.same("in an object that was read", read.object(1, 6), 4);
         Check.same("in an unknown one", read.object(2, 1), NONE);
         Check.same("written", Check.written(read),
