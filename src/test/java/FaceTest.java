@@ -42,7 +42,20 @@ public final class FaceTest {
         for (String word : BANNED) {
             Check.no("the source has " + word, source.contains(word));
         }
+        asInTheDocument(source);
         Check.end();
+    }
+
+    /** Each line of the document's face stands in the source, names of parameters and all. */
+    private static void asInTheDocument(String source) throws Exception {
+        int lines = 0;
+        for (String line : Files.readAllLines(Path.of("../shared/DOC.md"))) {
+            if (line.startsWith("public final class ") || line.startsWith("    public ")) {
+                lines++;
+                Check.yes("the source has " + line, source.contains(line.replace(";", "").stripTrailing()));
+            }
+        }
+        Check.same("lines of the face and of the class", lines, DUE.size() + 1);
     }
 
     private static Set<String> face(Class<?> type) {
