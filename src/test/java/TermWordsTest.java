@@ -53,6 +53,7 @@ public final class TermWordsTest {
         Check.same("the 201st object", full.object(0, 1), NONE);
         Check.same("the 200th stays the last", full.kind(199), 1);
         Check.noObject("kind(200)", () -> full.kind(200));
+        Check.same("200 written", Check.written(full), "(design 3" + "\n (sheet 0 \"\")".repeat(199) + ")\n");
         Check.reads(0, "(design 1" + "(a)".repeat(199) + ")", 200);
         Check.fault(0, "(design 1" + "(a)".repeat(199) + "(|a))");
         Check.reads(1, "design 1\n" + ".a\n".repeat(199), 200);
@@ -800,6 +801,8 @@ public final class TermWordsTest {
         Check.fault(0, "(design 1(a" + " ".repeat(1998) + "| ");
         Check.fault(0, "(design 1(a" + " ".repeat(1997) + ")|(b))");
         Check.fault(0, "(design 1(a\"" + " ".repeat(1997) + "|\"))");
+        Check.fault(0, "(design 1(a\"" + " ".repeat(1997) + "|\\\"\"))");
+        Check.fault(0, "(design 1(a\"" + " ".repeat(1996) + "\\|\"\"))");
         Check.fault(0, "(design 1(" + "a".repeat(1999) + "|a))");
         Check.reads(1, "design 1\n." + "a".repeat(2000) + "\n", 2);
         Check.fault(1, "design 1\n." + "a".repeat(2000) + "|a\n");
