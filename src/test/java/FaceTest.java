@@ -43,6 +43,7 @@ public final class FaceTest {
             Check.no("the source has " + word, source.contains(word));
         }
         asInTheDocument(source);
+        madeInConstructors(source);
         Check.end();
     }
 
@@ -56,6 +57,15 @@ public final class FaceTest {
             }
         }
         Check.same("lines of the face and of the class", lines, DUE.size() + 1);
+    }
+
+    /** Rows and objects are made once, with the object: no call makes more than an exception. */
+    private static void madeInConstructors(String source) {
+        for (String line : source.split("\n")) {
+            boolean kept = line.startsWith("        this.") || line.startsWith("        private final ");
+            boolean thrown = line.contains(" throw new ");
+            Check.no("a call makes something: " + line, line.matches(".*\\bnew [A-Za-z]+[(\\[].*") && !kept && !thrown);
+        }
     }
 
     private static Set<String> face(Class<?> type) {

@@ -9,9 +9,6 @@ public final class PromiseWordsTest {
     private static final String SMALL_WRITTEN = "(design 3\n (sheet 7 \"ab\"\n  (wire 1 2 3 4)\n  (odd (x)))\n (sheet 8 \"\"))\n";
 
     public static void main(String[] args) throws IOException {
-        Check.open("An object is used", "## The public face");
-        calls();
-        Check.close();
         Check.open("## Promise 1:", "## Not promised");
         newObject();
         unit();
@@ -34,13 +31,6 @@ public final class PromiseWordsTest {
 
     private static SchematicText small() {
         return Check.holding(0, SMALL, 5);
-    }
-
-    private static void calls() {
-        Check.words("An object is used for at most 512 calls after it has been made; what later calls answer is free.");
-        SchematicText x = Check.fed(0, "(design 1(a" + "x".repeat(497) + "))");
-        Check.same("call 511", x.read(), 2);
-        Check.same("call 512", x.unknown(1, NONE), 500);
     }
 
     private static void newObject() {
