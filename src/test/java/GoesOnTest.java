@@ -1,6 +1,7 @@
 /**
  * "That of the first character with which no such text goes on", taken by its words and without a second reader:
  * what stands ahead of a fault's place goes on to a text that is read, and with the character there nothing does.
+ * The class itself is asked what is read: this tells a place too early or too late, not a wrong reading of the document.
  */
 public final class GoesOnTest {
     private static final Texts TEXTS = new Texts(20261116);
